@@ -497,8 +497,7 @@ public final class FetchRope {
         if (from.sort != to.sort) {
             return CAST;
         }
-        if (n < 0 || i < 0 || j < 0 || n > from.length || n > to.length
-                || i > from.length - n || j > to.length - n) {
+        if (n < 0 || i < 0 || j < 0 || i > from.length - n || j > to.length - n) {
             return PLACE;
         }
         System.arraycopy(from.items, i, to.items, j, n);
@@ -577,6 +576,7 @@ public final class FetchRope {
             hill = bare;
         }
 
+        /** All places are copied, those of no SLEDGE too: so one that undo() takes away leaves no ROW to the next. */
         void copyFrom(Day other) {
             count = other.count;
             hour = other.hour;
@@ -615,10 +615,6 @@ public final class FetchRope {
             worth[sledge] = value;
             sides = withBit(sides, sledge, side);
             goals = withBit(goals, sledge, goal);
-            // A SLEDGE that undo() took away may have left its ROW here.
-            for (int part = 0; part < PARTS; part++) {
-                rows[sledge * PARTS + part] = 0;
-            }
             count++;
             return sledge;
         }
@@ -810,7 +806,7 @@ public final class FetchRope {
         }
     }
 
-    /** THE TEXT, and how a HILL is read from it: what is accepted is passed, so a fault is where the reading stopped. */
+    /** THE TEXT and its reading: what is accepted is passed, so a FAULT is where the reading stopped. */
     private static final class Text {
         static final int MOST = 100;
         static final int NO_FAULT = -1;

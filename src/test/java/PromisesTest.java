@@ -165,6 +165,13 @@ public final class PromisesTest {
         due("the text stays", x.count(4), 7);
         due("full", x.hill(), -4);
 
+        FetchRope z = plain(50, 0);
+        for (int i = 0; i < 12; i++) due("a faulty one", hill(z, "snow 9 s=0;snow 8 s=0&s=0&s=0&s=0;need 9;rope 1;"), -58);
+        due("a good one behind faulty ones", hill(z, "snow 3 s=1|s=0&s=0"), 0);
+        due("pull", z.of(0, 6), 53);
+        due("need", z.told(3), 1);
+        due("rope", z.told(4), 990);
+
         FetchRope y = plain(50, 0);
         due("hill", hill(y, "snow 9 s=0;need 7;rope 8"), 0);
         y.image();
@@ -254,6 +261,11 @@ public final class PromisesTest {
         holds("s=0&d=0&l=3", 1, 0, 0);
         holds("s=0|s=1&s=2|s=9", 1, 0, 0);
         holds("s=01", 0, 1, 0);
+        for (char letter : "skvdlh".toCharArray()) {
+            holds(letter + "<99", 1, 1, 1);
+            holds(letter + "=99", 0, 0, 0);
+            holds(letter + ">99", 0, 0, 0);
+        }
         holds("!(!(s=0|s=2))", 1, 0, 1);
         FetchRope x = plain(20, 0);
         hill(x, "snow 1 h=0;snow 2 h=11;slush 4 h=5;snow 8 h<2;slush 9 h>10;slush 2 h=5");
@@ -342,6 +354,13 @@ public final class PromisesTest {
         due("too much for the rope", x.run(2, 0), 0);
         hill(x, "need 0");
         due("need 0, of like pull", x.run(2, 0), 1);
+
+        FetchRope d = plain(30, 0, 20, 1);
+        hill(d, "snow 7 d=1&s=1;snow 3 d=0&s=0");
+        due("pulls by their sides", d.run(1, 0), 1);
+        due("worn by the sides that they leave", d.told(1), 60);
+        due("back", d.run(1, 0), 1);
+        due("worn", d.told(1), 110);
 
         FetchRope y = plain(99, 0, 99, 1);
         hill(y, "snow 99 s<9;snow 99 s<9;snow 99 s<9;snow 98 s<9;need 0");
@@ -454,6 +473,21 @@ public final class PromisesTest {
         due("goes", z.best(3, 12), 1);
         due("worn", z.best(3, 1), 52);
 
+        FetchRope v = new FetchRope();
+        v.sledge(0, 0, 0, 0, 0, 0);
+        v.sledge(0, 0, 0, 1, 0, 0);
+        due("of like pull", v.best(2, 10), 99);
+        hill(v, "need 0");
+        due("no gain, no wear: still a pair ahead of none", v.best(2, 10), 1);
+        due("and again", v.best(2, 11), 1);
+        due("worn", v.best(2, 1), 0);
+
+        FetchRope u = plain(30, 0, 20, 0);
+        u.set(1, 1, 0);
+        due("all on side 0", u.best(2, 0), 1);
+        u.set(0, 1, 0);
+        due("all on side 0", u.best(2, 0), 2);
+
         FetchRope w = plain(99, 0, 99, 1);
         w.set(0, 1, 0);
         hill(w, "snow 99 s<9;snow 99 s<9;snow 99 s<9;snow 98 s<9;need 0");
@@ -472,6 +506,8 @@ public final class PromisesTest {
         due("at hour 11", x.never(), 8);
         hill(x, "need 5;rope 12;snow 5 s=0&h=12");
         due("no hour is 12 modulo 12", x.never(), 9);
+        hill(x, "need 5;rope 12;snow 5 s=0&h=0");
+        due("at this hour", x.never(), 8);
         x.run(1, 2);
         due("sides as they are", x.never(), 8);
         due("of like pull", plain(30, 0, 99, 0, 30, 1).never(), 1);
@@ -512,6 +548,10 @@ public final class PromisesTest {
         due("n 4", x.can(0, 4), -2);
         due("n -1", x.can(0, -1), -2);
         due("none", x.can(4, 4), -1);
+        FetchRope z = plain(30, 0, 20, 0);
+        due("as it is", z.runs(0, 0), 1);
+        due("by 0 of them", z.can(0, 0), 0);
+        due("all on one side", z.can(0, 3), 0);
         // The runs have an hour each.
         FetchRope y = plain(30, 0, 30, 1, 60, 0);
         hill(y, "snow 9 s=0&h=2");
@@ -560,6 +600,16 @@ public final class PromisesTest {
         due("n -1", x.runs(-1, 1), -2);
         due("what 2", x.runs(4, 2), -1);
         due("what -1", x.runs(0, -1), -1);
+        x.dusk(4);
+        due("n 1", x.runs(1, 0), 1);
+        x.dusk(2);
+        due("n 0 behind it", x.runs(0, 1), 99);
+        due("all on side 0", plain(30, 0, 20, 0).runs(0, 0), 1);
+        FetchRope y = plain(30, 1, 20, 1);
+        y.dusk(3);
+        due("all on side 1", y.runs(0, 0), 1);
+        due("first", y.runs(0, 1), 99);
+        due("n 1", y.runs(1, 0), 0);
         hill(x, "snow 10 s=2&h=1");
         x.dusk(4);
         due("at hour 1 of like pull", x.runs(2, 0), 1);
@@ -825,12 +875,39 @@ public final class PromisesTest {
         due("tapes stay", x.read(0, 0), 0);
         due("the trace stays", x.count(5), 2);
         x.plan(-1, 0);
+        x.plan(1, 0);
+        x.sledge(0, 0, 30, 0, 1, 9);
+        x.plan(-1, 0);
+        x.plan(2, 0);
         x.book(-1, 0);
+        x.book(1, x.of(1, 6));
         due("undo again", x.undo(), 2);
         same(was, snapshot(x));
         due("dusk", x.dusk(0), 1);
         due("wear of the plan", x.wear(1), 0);
         due("the book", x.looked(), 0);
+        x.book(-1, 0);
+        x.book(0, x.of(0, 6));
+        x.plan(-1, 0);
+        x.plan(1, 0);
+        x.image();
+        due("as told", x.looked(), -5);
+        x.book(-1, 0);
+        x.book(1, 998);
+        x.undo();
+        due("the same sledge and number", x.looked(), -5);
+        x.book(-1, 0);
+        x.book(0, 998);
+        x.undo();
+        due("the same number", x.looked(), -5);
+        x.sledge(0, 0, 50, 0, 1, 9);
+        x.sledge(0, 0, 50, 0, 1, 9);
+        long worn = x.wear(0);
+        x.plan(-1, 0);
+        x.plan(2, 3);
+        x.undo();
+        due("the same pair", x.wear(0), worn);
+        due("goes", x.wear(1), 0);
     }
 
     private static long[] snapshot(FetchRope x) {
@@ -1018,6 +1095,8 @@ public final class PromisesTest {
         due("j beyond", x.shift(0, 0, 1, 4, 0), -13);
         due("n beyond the one", x.shift(0, 3, 0, 0, 3), -13);
         due("n beyond the other", x.shift(0, 0, 1, 0, 4), -13);
+        due("j + n beyond", x.shift(0, 0, 1, 1, 3), -13);
+        due("i + n beyond", x.shift(1, 1, 0, 0, 3), -13);
         due("i + n wraps", x.shift(0, MAX, 1, 0, MAX), -13);
         due("i -1", x.shift(0, -1, 1, 0, 1), -13);
         due("j -1", x.shift(0, 0, 1, -1, 1), -13);
