@@ -811,12 +811,12 @@ public final class FetchRope {
         static final int MOST = 100;
         static final int NO_FAULT = -1;
         private static final int MOST_NESTED = 4;
-        /** No sign: it stands behind the last one, so that no reading goes past it. */
+        /** No sign: what stands behind the last one, so that no reading goes past it. */
         private static final int END = -1;
         private static final String LETTERS = "skvdlh";
         private static final String RELATIONS = "<=>";
 
-        private final byte[] bytes = new byte[MOST + 1];
+        private final byte[] bytes = new byte[MOST];
         int length;
         private int at;
 
@@ -830,14 +830,13 @@ public final class FetchRope {
         }
 
         int readInto(Hill hill) {
-            bytes[length] = END;
             at = 0;
             hill.clear();
             for (int clauses = 1; clauses <= Hill.MOST_CLAUSES; clauses++) {
                 if (!readClause(hill)) {
                     return at;
                 }
-                if (bytes[at] == END) {
+                if (sign() == END) {
                     return NO_FAULT;
                 }
                 // Behind the last clause that may be, a ; is a fault too.
@@ -850,8 +849,8 @@ public final class FetchRope {
 
         private boolean readClause(Hill hill) {
             boolean falls = accept('s');
-            boolean slush = falls && bytes[at] == 'l';
-            boolean rope = !falls && bytes[at] == 'r';
+            boolean slush = falls && sign() == 'l';
+            boolean rope = !falls && sign() == 'r';
             if (!acceptAll(slush ? "lush " : falls ? "now " : rope ? "rope " : "need ")) {
                 return false;
             }
@@ -925,15 +924,20 @@ public final class FetchRope {
         /** 1 or 2 digits; END, if there is none. */
         private int readNumber() {
             int n = END;
-            for (int digits = 0; digits < 2 && bytes[at] >= '0' && bytes[at] <= '9'; digits++) {
-                n = Math.max(0, n) * 10 + bytes[at] - '0';
+            for (int digits = 0; digits < 2 && sign() >= '0' && sign() <= '9'; digits++) {
+                n = Math.max(0, n) * 10 + sign() - '0';
                 at++;
             }
             return n;
         }
 
-        private boolean accept(char sign) {
-            if (bytes[at] != sign) {
+        /** The one that is read next. */
+        private int sign() {
+            return at < length ? bytes[at] : END;
+        }
+
+        private boolean accept(char due) {
+            if (sign() != due) {
                 return false;
             }
             at++;
@@ -942,7 +946,7 @@ public final class FetchRope {
 
         private boolean acceptAll(String signs) {
             for (int i = 0; i < signs.length(); i++) {
-                if (bytes[at] != signs.charAt(i)) {
+                if (sign() != signs.charAt(i)) {
                     return false;
                 }
                 at++;
@@ -952,7 +956,7 @@ public final class FetchRope {
 
         /** Which of the signs stands here; below 0, if none does. */
         private int acceptOneOf(String signs) {
-            int place = signs.indexOf((char) bytes[at]);
+            int place = sign() == END ? -1 : signs.indexOf((char) sign());
             if (place >= 0) {
                 at++;
             }

@@ -21,6 +21,7 @@ public final class FaceTest {
         "int judge(int,int)", "int image()", "int undo()", "int act(int,int,int)", "int trace(int)", "int taken(int,int)", "int count(int)",
         "int tape(int,int,int)", "int item(int,int,long)", "long read(int,int)", "int shift(int,int,int,int,int)",
     };
+    private static final Set<String> CONSTANT = Set.of("int", "long", "boolean", "char", "String", "int[]", "long[]", "char[]", "byte[]");
     private static int wrong;
 
     private static void check(boolean right, String what) {
@@ -68,6 +69,7 @@ public final class FaceTest {
         int fields = 0;
         for (Field f : c.getDeclaredFields()) {
             check(!Modifier.isStatic(f.getModifiers()) || Modifier.isFinal(f.getModifiers()), f + " is static and not final");
+            check(!Modifier.isStatic(f.getModifiers()) || CONSTANT.contains(f.getType().getSimpleName()), f + " is no constant of rule 5");
             fields += Modifier.isStatic(f.getModifiers()) ? 0 : 1;
         }
         check(fields <= 20, c + " has " + fields + " fields");
