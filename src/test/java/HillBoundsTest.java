@@ -118,6 +118,11 @@ public final class HillBoundsTest {
         due("7: a faulty one", Bounds.hill(x, "snow 9 s=0;snow 8 s=0;"), -10 - 22);
         due("7: a fifth", Bounds.hill(x, "need 1"), 4);
         due("7: nothing of the faulty one is left: PULL", x.of(0, 6), 50);
+        FetchRope y = Bounds.plain(50, 0);
+        String long9 = "snow 9 s=0|s=0|s=0|s=0|s=0|s=0|s=0|s=0|s=0|s";
+        for (int i = 0; i < 9; i++) due("7: a faulty one", Bounds.hill(y, long9), -10 - long9.length());
+        due("7: a HILL behind nine faulty ones", Bounds.hill(y, "snow 3 s=1;slush 1 s=0"), 0);
+        due("7: nothing of them is left: PULL", y.of(0, 6), 49);
     }
 
     private static void blanks() {
