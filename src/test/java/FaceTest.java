@@ -1,3 +1,5 @@
+import java.io.DataInputStream;
+import java.io.InputStream;
 import java.lang.reflect.Constructor;
 import java.lang.reflect.Field;
 import java.lang.reflect.Method;
@@ -22,6 +24,9 @@ public final class FaceTest {
         "int tape(int,int,int)", "int item(int,int,long)", "long read(int,int)", "int shift(int,int,int,int,int)",
     };
     private static final Set<String> CONSTANT = Set.of("int", "long", "boolean", "char", "String", "int[]", "long[]", "char[]", "byte[]");
+    private static final Set<String> LIBRARY = Set.of("java/lang/Object.<init>", "java/lang/String.charAt", "java/lang/String.length",
+        "java/lang/String.indexOf", "java/lang/Math.min", "java/lang/Math.max", "java/lang/Math.abs", "java/lang/Integer.bitCount",
+        "java/lang/System.arraycopy");
     private static int wrong;
 
     private static void check(boolean right, String what) {
@@ -109,14 +114,52 @@ public final class FaceTest {
         }
     }
 
+    /** What a compiled class calls or reads of other classes, as its pool of constants tells; a line for each. */
+    private static Set<String> references(Class<?> c) throws Exception {
+        String name = c.getName() + ".class";
+        try (InputStream bytes = FaceTest.class.getResourceAsStream(name); DataInputStream in = new DataInputStream(bytes)) {
+            in.readLong();
+            int size = in.readUnsignedShort();
+            String[] text = new String[size];
+            int[][] part = new int[size][];
+            int[] tag = new int[size];
+            for (int i = 1; i < size; i++) {
+                tag[i] = in.readUnsignedByte();
+                switch (tag[i]) {
+                    case 1: text[i] = in.readUTF(); break;
+                    case 3: case 4: in.readInt(); break;
+                    case 5: case 6: in.readLong(); i++; break;
+                    case 7: case 8: part[i] = new int[] {in.readUnsignedShort()}; break;
+                    case 9: case 10: case 11: case 12: part[i] = new int[] {in.readUnsignedShort(), in.readUnsignedShort()}; break;
+                    default: throw new IllegalStateException(c + " has a constant of sort " + tag[i] + ", as lambdas and joined texts have");
+                }
+            }
+            Set<String> told = new TreeSet<>();
+            for (int i = 1; i < size; i++) {
+                if (tag[i] < 9 || tag[i] > 11) continue;
+                String owner = text[part[part[i][0]][0]];
+                String member = text[part[part[i][1]][0]];
+                if (!owner.startsWith("FetchRope")) told.add(owner + "." + member);
+            }
+            return told;
+        }
+    }
+
+    /** Rule 4, of calls on texts and arrays too, that the source does not tell apart from the class's own. */
+    private static void library(Class<?> c) throws Exception {
+        for (String reference : references(c)) check(LIBRARY.contains(reference), c + " uses " + reference);
+    }
+
     public static void main(String[] args) throws Exception {
         face();
         shape(FetchRope.class);
+        library(FetchRope.class);
         Class<?>[] inside = FetchRope.class.getDeclaredClasses();
         check(inside.length <= 11, inside.length + " classes inside");
         for (Class<?> c : inside) {
             check(Modifier.isStatic(c.getModifiers()) && !Modifier.isPublic(c.getModifiers()), c + " is not static, or is public");
             shape(c);
+            library(c);
         }
         source();
         System.out.println("FaceTest: " + wrong + " faults");
